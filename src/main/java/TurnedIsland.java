@@ -651,9 +651,10 @@ public final class TurnedIsland {
 
         /** Sets of others that are enough with the plot alone: how many, or in how many orders they come. */
         int power(int plot, boolean byOrders) {
-            int half = weightOf(all()) / 2;
+            int all = all();
+            int half = weightOf(all) / 2;
             int sum = 0;
-            for (int set = 0; set <= all(); set++) {
+            for (int set = 0; set <= all; set++) {
                 int others = weightOf(set);
                 if ((set >> plot & 1) == 0 && others <= half && others + weight[plot] > half) {
                     sum += byOrders ? orders(Integer.bitCount(set)) : 1;
@@ -1489,12 +1490,13 @@ public final class TurnedIsland {
             gatherEach(isle);
             shareOut(isle.plots);
             Arrays.fill(cells, 0);
+            int all = isle.plots.all();
             int leavers = NONE;
             int set = 0;
             int shares = 0;
             int weights = 0;
             // From one set to the next a single owner comes or goes, so sums needn't be made anew.
-            for (int step = 1; step <= isle.plots.all(); step++) {
+            for (int step = 1; step <= all; step++) {
                 int owner = Math.min(Integer.numberOfTrailingZeros(step), MOST_PLOTS - 1);
                 set ^= 1 << owner;
                 int sign = (set >> owner & 1) != 0 ? 1 : -1;

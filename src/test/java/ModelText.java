@@ -11,6 +11,8 @@ import java.util.regex.Pattern;
 /** A want of the model, as a tree of functions. */
 final class ModelText {
     static final class Fault extends Exception {
+        private static final long serialVersionUID = 1;
+
         final int number;
         final int place;
 

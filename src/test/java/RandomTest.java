@@ -88,11 +88,16 @@ public final class RandomTest {
         for (int k = 0; k < 4; k++) {
             text(k);
         }
-        for (int i = chance.nextInt(60); i > 0; i--) {
+        for (int i = chance.nextInt(100); i > 0; i--) {
             sky();
         }
-        for (int i = chance.nextInt(11); i > 0; i--) {
+        // Few plots make many turns, many plots make many sets.
+        int plots = run % 3 == 0 ? chance.nextInt(11) : run % 3 == 1 ? 1 + chance.nextInt(3) : 3 + chance.nextInt(4);
+        for (int i = plots; i > 0; i--) {
             plot();
+        }
+        for (int i = chance.nextInt(2) * 20; i > 0; i--) {
+            plan();
         }
         if (chance.nextInt(3) == 0) {
             set();
@@ -165,9 +170,7 @@ public final class RandomTest {
                 due("pay(" + owner + ", " + v + ")", x.pay(owner, v), m.pay(owner, v));
                 break;
             case 4:
-                int i = pick(0, 59);
-                int turn = pick(-1, 1);
-                due("plan(" + i + ", " + turn + ")", x.plan(i, turn), m.plan(i, turn));
+                plan();
                 break;
             case 5:
                 int day = near(20, 20);
@@ -182,7 +185,31 @@ public final class RandomTest {
         }
     }
 
+    private void plan() {
+        int i = pick(0, 59);
+        int turn = pick(-1, 1);
+        due("plan(" + i + ", " + turn + ")", x.plan(i, turn), m.plan(i, turn));
+    }
+
+    /** Promises of one owner that lie close to one another. */
+    private void promiseMuch() {
+        int owner = plotNumber();
+        for (int i = 2 + chance.nextInt(9); i > 0; i--) {
+            int turn = chance.nextInt(3) - 1;
+            int from = near(0, 12);
+            int until = from + chance.nextInt(5);
+            due("promise(" + owner + ", " + turn + ", " + from + ", " + until + ")",
+                    x.promise(owner, turn, from, until), m.promise(owner, turn, from, until));
+            due("quarrel()", x.quarrel(), m.quarrel());
+            due("fewest(" + owner + ")", x.fewest(owner), m.fewest(owner));
+        }
+    }
+
     private void trade() {
+        if (chance.nextInt(30) == 0) {
+            promiseMuch();
+            return;
+        }
         int owner = plotNumber();
         int from = near(3, 10);
         int until = from + pick(0, 6);
@@ -202,7 +229,7 @@ public final class RandomTest {
     }
 
     private void pass() {
-        int n = chance.nextInt(12) == 0 ? pick(1, 400) : pick(1, 4);
+        int n = chance.nextInt(40) == 0 ? pick(1, 400) : pick(1, 4);
         due("noons(" + n + ")", x.noons(n), m.noons(n));
         due("look(1)", x.look(1), m.look(1));
         due("look(3)", x.look(3), m.look(3));
@@ -228,6 +255,9 @@ public final class RandomTest {
         }
         for (int what = 0; what < 10; what++) {
             due("look(" + what + ")", x.look(what), m.look(what));
+        }
+        for (int i = 0; i < 3; i++) {
+            askOfPlot(0);
         }
     }
 
