@@ -2,12 +2,22 @@
 final class Check {
     private int made;
     private int wrong;
+    /** What is tested just now; stands ahead of what is told. */
+    private String about = "";
+
+    void about(String what) {
+        about = what.isEmpty() ? "" : what + ": ";
+    }
+
+    int made() {
+        return made;
+    }
 
     void due(String call, long got, long want) {
         made++;
         if (got != want) {
             wrong++;
-            System.out.println(call + " answered " + got + ", due is " + want);
+            System.out.println(about + call + " answered " + got + ", due is " + want);
         }
     }
 
@@ -55,5 +65,14 @@ final class Check {
     static int tell(TurnedIsland x, int k, String text) {
         feed(x, text);
         return x.text(k);
+    }
+
+    /** Plots of weight 1 without a want, all at place 0. */
+    static TurnedIsland island(int plots) {
+        TurnedIsland x = new TurnedIsland();
+        for (int p = 0; p < plots; p++) {
+            x.plot(0, 1, 4, 0);
+        }
+        return x;
     }
 }
