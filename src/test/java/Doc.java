@@ -26,6 +26,10 @@ final class Doc {
         return part.replaceAll("(?m)^```.*$", " ").replaceAll("\\s+", " ").trim();
     }
 
+    String face() {
+        return between("\n## The public face\n", "\n## ");
+    }
+
     /** What stands behind the subject of the document. */
     String use() {
         return oneLine("An object is used" + between("\nAn object is used", "\n## "));

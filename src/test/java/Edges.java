@@ -59,7 +59,12 @@ final class Edges {
         take(quote);
         int before = check.made();
         check.about(part + ", \"" + quote + "\"");
-        test.accept(check);
+        try {
+            test.accept(check);
+        } catch (RuntimeException | StackOverflowError e) {
+            // So that the other sentences are tested none the less.
+            check.no("it threw " + e, true);
+        }
         check.no("it has no test", check.made() == before);
     }
 

@@ -492,8 +492,8 @@ final class EdgesOfPromises17To32 {
 
     private static void backOfAnotherWhat(Check c) {
         TurnedIsland x = Check.island(1);
-        int[][] wrong = {{0, 0, -1}, {0, 0, 2}, {0, 0, 9}, {0, 0, 11}, {0, 2, 13}, {0, 39, 50}, {0, 39, MIN},
-            {0, 39, MAX}};
+        int[][] wrong = {{0, 0, -1}, {0, 0, 2}, {0, 0, 9}, {0, 0, 11}, {0, 2, 13}, {5, 5, 11}, {5, 7, 13}, {0, 39, 50},
+            {0, 39, MIN}, {0, 39, MAX}};
         for (int[] w : wrong) {
             c.due("back(" + w[0] + ", " + w[1] + ", " + w[2] + ")", x.back(w[0], w[1], w[2]), -1);
         }

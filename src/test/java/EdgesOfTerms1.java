@@ -109,7 +109,9 @@ final class EdgesOfTerms1 {
         x.sell(0, 1, 4, 900, 1);
         x.promise(1, 1, 0, 9999);
         x.promise(1, -1, 0, 9999);
+        x.promise(1, 0, 0, 9999);
         x.drop(0);
+        x.drop(2);
         x.plan(0, 1);
         x.plan(59, 1);
         x.log(0, 0, 3);
@@ -120,12 +122,13 @@ final class EdgesOfTerms1 {
     }
 
     private static void toldAnewAllIsAsAtFirst(Check c) {
-        int[] before = {12, 4, 6, 5, 8, 2, 1, 2, 1, 2, 1, 1, 1, 1};
+        int[] before = {12, 4, 6, 5, 8, 2, 1, 3, 1, 2, 1, 1, 1, 1};
         int[] first = {12, 0, 0, 99, 0, 0, 0, 0, 0, 0, 0, 0, 0, 0};
         TurnedIsland x = full();
         for (int what = 0; what < first.length; what++) {
             c.due("told: look(" + what + ")", x.look(what), before[what]);
         }
+        c.due("told: worth", x.worth(0, 0, 0, 0), 16);
         c.yes("notches(12)", x.notches(12));
         for (int what = 0; what < first.length; what++) {
             c.due("as at first: look(" + what + ")", x.look(what), first[what]);
@@ -147,6 +150,10 @@ final class EdgesOfTerms1 {
         c.due("nothing is promised", x.votes(1), 2);
         c.due("the first promise has number 0", x.promise(1, 1, 0, 9), 0);
         c.due("and is not dropped, as the old one was", x.votes(1), 3);
+        x.promise(1, -1, 5, 5);
+        c.due("nor is the third", x.promise(1, -1, 0, 9), 2);
+        c.due("so it quarrels with the first", x.quarrel(), 1);
+        c.yes("and can be dropped", x.drop(2));
         x.noons(1);
         c.due("the book has the one day", x.turned(0), 3);
         c.due("and no day ahead of it", x.turned(-1), -1);

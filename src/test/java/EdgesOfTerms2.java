@@ -136,6 +136,10 @@ final class EdgesOfTerms2 {
         value(c, "worth 1 when 1=1 and 1=1 and 1=1;", 1);
         value(c, "worth 1 when 1=1 and 1=1 and 1=2;", 0);
         value(c, "worth 1 when 1=2 or 1=1 and 1=1;", 1);
+        value(c, "worth 1 when 1<2 and 1=1;", 1);
+        value(c, "worth 1 when 1=1 and 2>1;", 1);
+        value(c, "worth 1 when 1<2 and 2>1;", 1);
+        value(c, "worth 1 when 2<1 and 2>1;", 0);
         value(c, "worth 1 when 1=2 or 1=1 and 1=2;", 0);
         fault(c, "worth 1 when and 1=1;", 1, 13);
         fault(c, "worth 1 when 1=1 and;", 1, 20);
@@ -149,6 +153,10 @@ final class EdgesOfTerms2 {
         value(c, "worth 1 when 1>2;worth 2 when 2>2;worth 4 when 3>2;", 4);
         value(c, "worth 1 when not 1=1;", 0);
         value(c, "worth 1 when not 1=2;", 1);
+        value(c, "worth 1 when not 1<2;", 0);
+        value(c, "worth 1 when not 2<1;", 1);
+        value(c, "worth 1 when not 2>1;", 0);
+        value(c, "worth 1 when not 1>2;", 1);
         value(c, "worth 1 when not not 1=1;", 1);
         value(c, "worth 1 when not 1=1 or 1=1;", 1);
         value(c, "worth 1 when not 1=2 and 1=2;", 0);
@@ -195,6 +203,7 @@ final class EdgesOfTerms2 {
         value(c, "worth 3*4;", 12);
         value(c, "worth 2*3*4;", 24);
         value(c, "worth 12/4;", 3);
+        value(c, "worth 12/1;", 12);
         value(c, "worth 24/4/3;", 2);
         value(c, "worth 7/2*2;", 6);
         value(c, "worth 2*7/2;", 7);
@@ -516,6 +525,12 @@ final class EdgesOfTerms2 {
         for (int[] d : due) {
             c.due("month on day " + d[0], x.worth(0, d[0], 0, 0), d[1]);
             c.due("day on day " + d[0], x.worth(1, d[0], 0, 0), d[0]);
+        }
+        // What is told in between changes nothing about which day it is.
+        for (int day = 0; day < 62; day++) {
+            x.sky(0, 0, 0, day % 9);
+            c.due("month on day " + day, x.worth(0, day, 0, 0), day / 30);
+            c.due("day on day " + day, x.worth(1, day, 0, 0), day);
         }
     }
 

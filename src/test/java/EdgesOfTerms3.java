@@ -268,6 +268,23 @@ final class EdgesOfTerms3 {
         c.yes("set(3, 0)", x.set(3, 0));
         x.noons(1);
         c.due("pull is 0 again", x.of(0, 3), -99);
+        TurnedIsland y = Check.island(3);
+        y.set(3, 10);
+        y.promise(1, -1, 0, 0);
+        y.promise(2, -1, 0, 0);
+        y.noons(1);
+        c.due("0 voted for no turn", y.of(0, 3), 0);
+        c.due("1 voted for it", y.of(1, 3), -10);
+        c.due("2 voted for it", y.of(2, 3), -10);
+        TurnedIsland z = Check.island(10);
+        z.set(3, 10);
+        for (int p = 0; p < 10; p++) {
+            z.promise(p, 1, 0, 0);
+        }
+        z.noons(1);
+        for (int p = 0; p < 10; p++) {
+            c.due("all ten voted for it: " + p, z.of(p, 3), -10);
+        }
     }
 
     private static void getsWorth(Check c) {

@@ -104,6 +104,9 @@ final class EdgesOfTerms4 {
         c.due("31 days", x.best(31, 0), -1000000);
         c.due("one day", x.best(1, 0), 0);
         c.due("thirty days", x.best(30, 0), 29 * 30 / 2);
+        for (int m = 30; m >= 1; m--) {
+            c.due(m + " days, whatever was asked ahead", x.best(m, 0), m * (m - 1) / 2);
+        }
         x.set(1, 100);
         c.due("one day from day 100", x.best(1, 0), 100);
         c.due("thirty days from day 100", x.best(30, 0), 3000 + 29 * 30 / 2);
@@ -172,6 +175,26 @@ final class EdgesOfTerms4 {
             x.plot(0, 1, 2, 0);
         }
         c.due("the least there can be, but for 240", x.best(30, 0), 30 * (8 - 7 * 9999));
+        turnsAreWorthIt(c);
+    }
+
+    /** Whatever the days are, the turns that are told bring what is told. */
+    private static void turnsAreWorthIt(Check c) {
+        for (int m : new int[] {2, 3, 5, 6, 8, 13, 21, 30}) {
+            TurnedIsland x = new TurnedIsland();
+            x.notches(24);
+            Check.tell(x, 0, "worth angle*day*7-day*day*3-angle*angle*5 when angle*3>day;worth day*turned;"
+                    + "worth 200-angle*angle;worth 40*turned when angle<day;");
+            x.plot(5, 1, 0, 0);
+            int sum = 0;
+            int angle = 0;
+            for (int i = 0; i < m; i++) {
+                int turn = x.best(m, 10 + i) - 2;
+                angle = (angle + turn + 24) % 24;
+                sum += x.worth(0, i, angle, turn);
+            }
+            c.due("what the turns of " + m + " days bring", sum, x.best(m, 0));
+        }
     }
 
     private static TurnedIsland oneOfFour(String text) {
@@ -234,6 +257,14 @@ final class EdgesOfTerms4 {
         Check.tell(x, 1, "worth 0-2;");
         c.due("if one has less than nothing anyway", x.fair(2, 0), -4);
         c.due("the others may have all they can", x.fair(2, 1), 10);
+        TurnedIsland y = new TurnedIsland();
+        Check.tell(y, 0, "worth 3;");
+        Check.tell(y, 1, "worth turned+1;");
+        for (int p = 0; p < 10; p++) {
+            y.plot(0, 1, p / 9, 0);
+        }
+        c.due("the last of ten has least", y.fair(6, 0), 12);
+        c.due("all ten together", y.fair(6, 1), 9 * 18 + 12);
     }
 
     private static void fairMoreTogether(Check c) {

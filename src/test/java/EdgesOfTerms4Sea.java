@@ -194,6 +194,13 @@ final class EdgesOfTerms4Sea {
         c.due("no angle", x.back(10, 12, 1), -1);
         c.due("no turn", x.back(10, 12, 11), -1);
         c.due("days without it", x.back(12, 13, 0), 9);
+        TurnedIsland y = new TurnedIsland();
+        y.notches(24);
+        y.plot(0, 1, 4, 0);
+        y.log(0, 0, 23);
+        c.due("the last angle of 24, and any turn behind it", y.back(0, 1, 0), 9);
+        y.log(1, 0, 0);
+        c.due("and on to 0", y.back(0, 1, 0), 3);
     }
 
     private static void plotsAsTheyAre(Check c) {
@@ -259,6 +266,13 @@ final class EdgesOfTerms4Sea {
         c.due("from 21", y.back(0, 1, 1), 21);
         c.due("the 11th what is the last", y.back(0, 1, 11), 3);
         c.due("the 12th is none", y.back(0, 1, 12), -1);
+        TurnedIsland z = new TurnedIsland();
+        z.notches(24);
+        z.plot(0, 1, 4, 0);
+        z.log(1, 0, 2);
+        c.due("at 2 behind day 1: from 0", z.back(0, 1, 1), 0);
+        c.due("not by 0, from which none goes on", z.back(0, 1, 10), 3);
+        c.due("but by 1 twice", z.back(0, 1, 11), 3);
     }
 
     /** Turns on every day, is paid and pays. */
@@ -291,6 +305,11 @@ final class EdgesOfTerms4Sea {
         c.due("goes back to where it was", x.look(2), 10);
         c.yes("then the latest that is not undone yet", x.undo());
         c.due("day", x.look(2), 9);
+        x.set(1, 100);
+        x.noons(3);
+        x.undo();
+        c.due("the book has no more days than ahead of it", x.turned(99), -1);
+        c.due("and no fewer", x.turned(100), 3);
         // With 401 days gone the book has lost one, which comes back.
         TurnedIsland y = running();
         y.noons(400);
@@ -404,7 +423,7 @@ final class EdgesOfTerms4Sea {
 
     /** Answers that tell all that an image must hold. */
     private static long[] seen(TurnedIsland x) {
-        long[] s = new long[80];
+        long[] s = new long[90];
         int n = 0;
         for (int what = 0; what < 14; what++) {
             s[n++] = what == 9 ? 0 : x.look(what);
@@ -416,6 +435,9 @@ final class EdgesOfTerms4Sea {
             }
             s[n++] = x.votes(p);
             s[n++] = x.holder(p, 4);
+            s[n++] = x.holder(p, 5);
+            s[n++] = x.holder(p, 9);
+            s[n++] = x.holder(p, 60);
             s[n++] = x.worth(p, 4, 2, 1);
             s[n++] = x.worth(p, 330, 6, 0);
             s[n++] = x.fewest(p);
@@ -436,25 +458,31 @@ final class EdgesOfTerms4Sea {
         TurnedIsland x = new TurnedIsland();
         x.notches(8);
         for (int k = 0; k < 4; k++) {
-            Check.tell(x, k, "worth sun+10*wind+100*current+day+" + k + "*1000 when angle>2;worth 7;");
+            Check.tell(x, k, "worth sun+10*wind+100*current+" + k + " when angle>2;worth 7"
+                    + (k == 0 ? ";" : "+day;"));
         }
         for (int what = 0; what < 3; what++) {
             x.sky(what, 0, 3, 3 + what);
             x.sky(what, 11, 7, 4 + what);
         }
-        x.plot(1, 3, 0, 11);
+        x.plot(1, 5, 0, 11);
         x.plot(6, 2, 3, 12);
+        x.plot(7, 1, 1, 13);
         x.set(0, 2);
         x.set(2, 20);
         x.set(3, 4);
-        x.promise(0, 1, 0, 3);
+        x.promise(0, 1, 7, 8);
         x.promise(0, 0, 1, 2);
         x.promise(1, -1, 0, 99);
+        x.promise(0, 1, 0, 3);
         x.promise(0, -1, 2, 9);
         x.drop(1);
         x.sell(1, 0, 4, 6, 5);
+        x.sell(2, 1, 5, 9, 3);
+        x.sell(1, 2, 50, 60, 2);
         x.plan(3, 1);
         x.plan(59, 1);
+        x.log(2, 1, 1);
         x.log(2, 0, 4);
         x.pay(0, 8);
         x.pay(1, -9);
@@ -485,8 +513,27 @@ final class EdgesOfTerms4Sea {
         x.log(2, 0, 5);
         x.pay(0, 1);
         x.pay(1, 1);
-        x.set(1, 100);
-        x.noons(4);
+        x.set(1, 0);
+        x.noons(1);
+        x.worth(0, 4, 2, 1);
+        x.worth(1, 330, 6, 0);
+    }
+
+    /** Other things in the places of those that the image has. */
+    private static void beginAnew(TurnedIsland x) {
+        x.notches(5);
+        for (int p = 0; p < 3; p++) {
+            x.plot(4, 9, 4, 77);
+            x.pay(p, 7);
+        }
+        x.sell(2, 1, 50, 51, 1);
+        x.sell(2, 0, 52, 53, 1);
+        for (int p = 0; p < 5; p++) {
+            x.promise(2, 1, 70, 71);
+        }
+        x.sell(2, 1, 54, 55, 1);
+        x.log(60, 2, 1);
+        x.log(61, 2, 1);
     }
 
     private static void same(Check c, String when, TurnedIsland x, TurnedIsland like) {
@@ -503,17 +550,18 @@ final class EdgesOfTerms4Sea {
         disturb(x);
         c.yes("image(false)", x.image(false));
         same(c, "behind all that was told", x, rich());
-        x.notches(5);
-        disturb(x);
+        beginAnew(x);
         x.image(false);
         same(c, "behind other notches", x, rich());
         // What comes later goes on as it would have.
         TurnedIsland y = rich();
         c.due("noons", x.noons(9), y.noons(9));
         same(c, "nine noons later", x, y);
-        c.due("promises are counted on", x.promise(1, 0, 0, 0), 4);
+        c.due("promises are counted on", x.promise(1, 0, 0, 0), 5);
         c.no("what was dropped is", x.drop(1));
-        c.no("what was sold is", x.sell(1, 0, 6, 6, 0));
+        c.yes("what was not can be", x.drop(3));
+        c.no("what was sold is", x.sell(1, 0, 60, 61, 0));
+        c.yes("what was not can be", x.sell(1, 0, 61, 61, 0));
     }
 
     private static void imageHoldsNot(Check c) {

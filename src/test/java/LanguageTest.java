@@ -27,6 +27,7 @@ public final class LanguageTest {
         library(code);
         methodLengths(code);
         face();
+        signatures();
         classes();
         CHECK.close();
     }
@@ -105,6 +106,33 @@ public final class LanguageTest {
         }
         CHECK.due("constructors", c.getConstructors().length, 1);
         CHECK.due("constructors of any kind", c.getDeclaredConstructors().length, 1);
+    }
+
+    /** The document's face, line by line, beside what the class has. */
+    private static void signatures() throws IOException {
+        Set<String> has = new TreeSet<>();
+        for (Method m : TurnedIsland.class.getDeclaredMethods()) {
+            if (Modifier.isPublic(m.getModifiers())) {
+                StringBuilder b = new StringBuilder(m.getReturnType() + " " + m.getName());
+                for (Class<?> type : m.getParameterTypes()) {
+                    b.append(' ').append(type);
+                }
+                has.add(b.toString());
+            }
+        }
+        Doc doc = new Doc();
+        if (!doc.isThere()) {
+            return;
+        }
+        int told = 0;
+        Matcher m = Pattern.compile("public (\\w+) (\\w+)\\(([^)]*)\\);").matcher(doc.face());
+        while (m.find()) {
+            told++;
+            String given = m.group(3).isEmpty() ? "" : " " + m.group(3).replaceAll(" \\w+(, |$)", " ").trim();
+            String due = m.group(1) + " " + m.group(2) + given;
+            CHECK.yes("the face has " + due, has.contains(due));
+        }
+        CHECK.due("methods told in the document", told, has.size());
     }
 
     private static void classes() {
