@@ -1172,11 +1172,15 @@ public final class TurnedIsland {
         }
 
         private boolean readDivisor() {
-            if (kind[at] == NUMBER && number[at] == 0) {
+            if (kind[at] != NUMBER) {
+                return fail(OUT_OF_PLACE);
+            }
+            if (number[at] == 0) {
                 return fail(PART_BY_ZERO);
             }
             draft.add(number[at]);
-            return expect(NUMBER);
+            at++;
+            return true;
         }
 
         private boolean readUnit() {

@@ -112,6 +112,9 @@ public final class TextTest {
         fault("worth 1+;", 1, 8);
         fault("worth 1*/2;", 1, 8);
         fault("worth 1/sun;", 1, 8);
+        fault("worth 1 when (not 2/sun = 1);", 1, 20);
+        fault("worth 1 when (not 2/", 1, 20);
+        fault("worth 1 when (not 2/0 = 1);", 2, 20);
         fault("worth 1/2/00;", 2, 10);
         fault("worth 1/0000;", 2, 8);
         fault("worth 1/00000;", 1, 8);
